@@ -1,0 +1,92 @@
+import java.security.MessageDigest;
+import java.security.NoSuchAlgorithmException;
+
+/** Images and runs of calls that several tests begin with. */
+final class Sample {
+    static final int FLASH = 2816;
+    static final int PRIMARY_TRAILER = 4 * 256;
+    static final int SECONDARY_TRAILER = 9 * 256;
+    static final int[] MAGIC = {83, 87, 65, 80, 45, 79, 75, 33};
+
+    private Sample() {
+    }
+
+    /** The image of the bytes that feedAll feeds, made by the Java library's SHA-256. */
+    static int[] image(int version, int length, int seed) {
+        byte[] ahead = new byte[8 + length];
+        for (int i = 0; i < 4; i++) {
+            ahead[i] = (byte) (length >> (8 * i));
+            ahead[4 + i] = (byte) (version >> (8 * i));
+        }
+        for (int i = 0; i < length; i++) {
+            ahead[8 + i] = (byte) dataByte(seed, i);
+        }
+        byte[] digest = sha256(ahead);
+        int[] image = new int[length + 40];
+        for (int i = 0; i < image.length; i++) {
+            image[i] = (i < ahead.length ? ahead[i] : digest[i - ahead.length]) & 255;
+        }
+        return image;
+    }
+
+    static byte[] sha256(byte[] bytes) {
+        try {
+            return MessageDigest.getInstance("SHA-256").digest(bytes);
+        } catch (NoSuchAlgorithmException e) {
+            throw new IllegalStateException(e);
+        }
+    }
+
+    /** Every fifth run of 32 bytes is blank, so that COPY has units to pass over. */
+    static int dataByte(int seed, int i) {
+        return i / 32 % 5 == 4 ? 255 : (seed * 31 + i * 7 + i / 16) & 255;
+    }
+
+    /** The tape holds the data of that length afterwards; at most 1024 less what a last feed is over. */
+    static void feedAll(ScratchSwap x, int length, int seed) {
+        x.end(0);
+        for (int i = 0; i < length; i += 20) {
+            x.feed(number(seed, i), number(seed, i + 4), number(seed, i + 8), number(seed, i + 12),
+                    number(seed, i + 16));
+        }
+        x.end(length);
+    }
+
+    private static int number(int seed, int i) {
+        return dataByte(seed, i) << 24 | dataByte(seed, i + 1) << 16 | dataByte(seed, i + 2) << 8
+                | dataByte(seed, i + 3);
+    }
+
+    static void put(ScratchSwap x, int slot, int version, int length) {
+        feedAll(x, length, version);
+        x.pack(version);
+        x.install(slot);
+    }
+
+    /** Version 1 RUNS, version 2 stands in the secondary slot, nothing is asked for. */
+    static ScratchSwap ready(int first, int second) {
+        ScratchSwap x = new ScratchSwap();
+        put(x, 0, 1, first);
+        put(x, 1, 2, second);
+        x.boot();
+        return x;
+    }
+
+    static void harmUnit(ScratchSwap x, int trailer, int unit, int value) {
+        for (int i = 0; i < 8; i++) {
+            x.harm(trailer + 8 * unit + i, value);
+        }
+    }
+
+    static void harmMagic(ScratchSwap x, int trailer) {
+        for (int i = 0; i < 8; i++) {
+            x.harm(trailer + i, MAGIC[i]);
+        }
+    }
+
+    static void same(Check check, String what, ScratchSwap x, int at, int[] bytes) {
+        for (int i = 0; i < bytes.length; i++) {
+            check.due(what + " flash(" + (at + i) + ")", x.flash(at + i), bytes[i]);
+        }
+    }
+}
