@@ -26,6 +26,7 @@ public final class PromiseTest {
         promise10CutErase();
         promise11Power();
         promise12Harm();
+        promise12HarmedImage();
         promise13Flash();
         promise14Due();
         promise15Image();
@@ -485,6 +486,24 @@ public final class PromiseTest {
         x.harm(8, 0);
         due("12 it runs on", x.look(1), 1);
         due("12 wrong now", x.image(0, 0), 0);
+    }
+
+    /** The one byte of a fed number 2 that is not 0 is its last one: the others can lose no bit. */
+    private static void promise12HarmedImage() {
+        ScratchSwap x = new ScratchSwap();
+        x.feed(2, 2, 2, 2, 2);
+        x.pack(4);
+        x.install(0);
+        Sample.same(CHECK, "12 fed", x, 8, new int[] {0, 0, 0, 2});
+        for (int at = 8; at <= 10; at++) {
+            due("12 harm(" + at + ", 0)", x.harm(at, 0), true);
+        }
+        due("12 right still", x.image(0, 0), 1);
+        due("12 boot", x.boot(), 1);
+        due("12 harm(11, 0)", x.harm(11, 0), true);
+        due("12 digest wrong", x.image(0, 0), 0);
+        due("12 boot of it", x.boot(), 0);
+        due("12 nothing runs", x.look(1), 0);
     }
 
     private static void promise13Flash() {
