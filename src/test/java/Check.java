@@ -1,6 +1,8 @@
 /** Counts the answers that are not as due, for all tests of the project. */
 final class Check {
     private final String test;
+    private String sentence = "";
+    private int askedOfSentence = 0;
     private int asked = 0;
     private int wrong = 0;
 
@@ -8,11 +10,19 @@ final class Check {
         this.test = test;
     }
 
+    /** What is asked from here on is for these words of the document. */
+    void sentence(String where, String words) {
+        endSentence();
+        sentence = where + " \"" + words + "\": ";
+        askedOfSentence = 0;
+    }
+
     void due(String call, long got, long want) {
         asked++;
+        askedOfSentence++;
         if (got != want) {
             wrong++;
-            System.out.println(test + ": " + call + " answered " + got + ", due is " + want);
+            System.out.println(test + ": " + sentence + call + " answered " + got + ", due is " + want);
         }
     }
 
@@ -21,9 +31,17 @@ final class Check {
     }
 
     void end() {
+        endSentence();
         System.out.println(test + ": " + asked + " answers looked at, " + wrong + " not as due");
         if (wrong != 0 || asked == 0) {
             System.exit(1);
+        }
+    }
+
+    private void endSentence() {
+        if (!sentence.isEmpty() && askedOfSentence == 0) {
+            wrong++;
+            System.out.println(test + ": " + sentence + "nothing was asked");
         }
     }
 }

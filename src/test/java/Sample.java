@@ -52,6 +52,52 @@ final class Sample {
         x.end(length);
     }
 
+    /** The tape holds these bytes afterwards, up to 1024: the odd ones go first, as a feed is always twenty. */
+    static void feedBytes(ScratchSwap x, int... bytes) {
+        x.end(0);
+        int odd = bytes.length % 20;
+        if (odd != 0) {
+            feedTwenty(x, bytes, 0);
+            x.end(odd);
+        }
+        for (int i = odd; i < bytes.length; i += 20) {
+            feedTwenty(x, bytes, i);
+        }
+    }
+
+    private static void feedTwenty(ScratchSwap x, int[] bytes, int from) {
+        int[] numbers = new int[5];
+        for (int i = 0; i < 20; i++) {
+            int b = from + i < bytes.length ? bytes[from + i] : 0;
+            numbers[i / 4] = numbers[i / 4] << 8 | b & 255;
+        }
+        x.feed(numbers[0], numbers[1], numbers[2], numbers[3], numbers[4]);
+    }
+
+    /** So many bytes, none of them 255. */
+    static int[] row(int length) {
+        int[] row = new int[length];
+        for (int i = 0; i < length; i++) {
+            row[i] = (i * 7 + i / 8) % 255;
+        }
+        return row;
+    }
+
+    /** An image that tells one length and has the right digest for another: also such as the document rules out. */
+    static int[] imageByHand(int told, int length, int version) {
+        byte[] ahead = new byte[8 + length];
+        for (int i = 0; i < ahead.length; i++) {
+            int header = i < 4 ? told >> (8 * i) : version >> (8 * (i - 4));
+            ahead[i] = (byte) (i < 8 ? header : i * 5);
+        }
+        byte[] digest = sha256(ahead);
+        int[] image = new int[ahead.length + 32];
+        for (int i = 0; i < image.length; i++) {
+            image[i] = (i < ahead.length ? ahead[i] : digest[i - ahead.length]) & 255;
+        }
+        return image;
+    }
+
     private static int number(int seed, int i) {
         return dataByte(seed, i) << 24 | dataByte(seed, i + 1) << 16 | dataByte(seed, i + 2) << 8
                 | dataByte(seed, i + 3);
@@ -81,6 +127,29 @@ final class Sample {
     static void harmMagic(ScratchSwap x, int trailer) {
         for (int i = 0; i < 8; i++) {
             x.harm(trailer + i, MAGIC[i]);
+        }
+    }
+
+    /** All that can be seen of an object from outside, but for the tape. */
+    static int[] seen(ScratchSwap x) {
+        int[] seen = new int[FLASH + 11 + 9 + 1];
+        for (int i = 0; i < seen.length; i++) {
+            seen[i] = seenAt(x, i);
+        }
+        return seen;
+    }
+
+    private static int seenAt(ScratchSwap x, int i) {
+        int behind = i - FLASH;
+        return behind < 0 ? x.flash(i) : behind < 11 ? x.wear(behind) : behind < 20 ? x.look(behind - 11) : x.due();
+    }
+
+    static void unchanged(Check check, String call, ScratchSwap x, int[] before) {
+        for (int i = 0; i < before.length; i++) {
+            int behind = i - FLASH;
+            String name = behind < 0 ? "flash(" + i + ")" : behind < 11 ? "wear(" + behind + ")"
+                    : behind < 20 ? "look(" + (behind - 11) + ")" : "due()";
+            check.due(name + " behind " + call, seenAt(x, i), before[i]);
         }
     }
 
