@@ -28,8 +28,10 @@ public final class BoundaryBootTest {
         primaryTrailerBegins();
         stepsThatAreNotSet();
         stepsInTheirOrder();
+        stepIsErasedCopiedMarked();
         okIsMarkedIfNotSet();
         exchangeIsOverByDone();
+        magicAndDoneWhateverIsThere();
         whateverWasDue();
         runsTill();
         refusedChangesNothing();
@@ -388,6 +390,26 @@ public final class BoundaryBootTest {
         }
     }
 
+    private static void stepIsErasedCopiedMarked() {
+        CHECK.sentence("Terms 3", "0: the SCRATCH is ERASED, SECTOR 5 + j COPIED to it; 1: SECTOR 5 + j is ERASED, "
+                + "SECTOR j COPIED to it; 2: SECTOR j is ERASED, the SCRATCH COPIED to it; then the STEP is MARKED "
+                + "with 1.");
+        int[] to = {10, 8, 3};
+        int[] from = {8, 3, 8};
+        for (int k = 0; k <= 2; k++) {
+            for (int acts = 0; acts <= 3; acts++) {
+                ScratchSwap x = marked();
+                Sample.harmUnit(x, P, KIND, 1);
+                x.cut(3 * k + acts, 0);
+                due("boot()", x.boot(), ScratchSwap.DOWN);
+                String name = "STEP " + k + " of 3, " + acts + " acts: ";
+                due(name + "the sector", x.flash(256 * to[k]), acts < 1 ? to[k] : acts < 2 ? 255 : from[k]);
+                due(name + "the steps", x.trailer(0, 4), acts < 3 ? k : k + 1);
+                due(name + "wear", x.wear(to[k]), 1);
+            }
+        }
+    }
+
     private static void okIsMarkedIfNotSet() {
         CHECK.sentence("Terms 3",
                 "(e) if the KIND is 2 or 3, and the PRIMARY TRAILER's OK is not SET, it is MARKED");
@@ -433,6 +455,28 @@ public final class BoundaryBootTest {
             due(name + "over", x.look(6), acts < 4 ? 0 : 1);
             due(name + "due()", x.due(), acts < 4 ? 5 : 0);
         }
+    }
+
+    private static void magicAndDoneWhateverIsThere() {
+        CHECK.sentence("Terms 3", "(f) its MAGIC is WRITTEN; (g) its DONE is MARKED with 1: the EXCHANGE is over.");
+        ScratchSwap x = lastSteps(1);
+        Sample.harmMagic(x, P);
+        due("MAGIC is good, acts", actsOfBoot(x, 1), 3);
+        x = lastSteps(1);
+        Sample.harmUnit(x, P, 0, 0);
+        due("MAGIC can't be good any more, acts", actsOfBoot(x, 1), 3);
+        due("MAGIC", x.trailer(0, 0), 0);
+        due("DONE", x.trailer(0, 2), 1);
+        due("nothing is taken back without MAGIC", x.due(), 0);
+        x = lastSteps(1);
+        Sample.harmUnit(x, P, DONE, 3);
+        due("1 upon 3, acts", actsOfBoot(x, 1), 3);
+        due("DONE", x.trailer(0, 2), 1);
+        x = lastSteps(1);
+        Sample.harmUnit(x, P, DONE, 2);
+        due("1 upon 2, acts", actsOfBoot(x, 1), 3);
+        due("DONE can't be SET any more", x.trailer(0, 2), 0);
+        due("so it is under way still", x.due(), 5);
     }
 
     private static void whateverWasDue() {

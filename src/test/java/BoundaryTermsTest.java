@@ -33,6 +33,7 @@ public final class BoundaryTermsTest {
         magicOfEightBytes();
         marksOfEightBytes();
         stepsAreTwelveUnits();
+        stepsOfEachSector();
         setWithOneAlone();
         markWritesEightBytes();
         CHECK.end();
@@ -355,6 +356,7 @@ public final class BoundaryTermsTest {
             byHand(slot, 984, 984, 1);
             byHand(slot, -1, -1, 0);
             byHand(slot, -4, -4, 0);
+            byHand(slot, -20, 20, 0);
             byHand(slot, 985, 985, 0);
             byHand(slot, 20, 20, 1);
             byHand(slot, 19, 20, 0);
@@ -453,6 +455,25 @@ public final class BoundaryTermsTest {
                 ScratchSwap x = new ScratchSwap();
                 Sample.harmUnit(x, slot == 0 ? P : S, unit, 1);
                 due("unit " + unit + ", trailer(" + slot + ", 4)", x.trailer(slot, 4), unit >= 4 && unit <= 15 ? 1 : 0);
+            }
+        }
+    }
+
+    /** An exchange is cut behind each of its steps: the units that are marked by then. */
+    private static void stepsOfEachSector() {
+        CHECK.sentence("Terms 2", "STEP k (0, 1, 2) of SECTOR j (0 .. 3) is UNIT 4 + 3 j + k.");
+        ScratchSwap x = new ScratchSwap();
+        Sample.harmUnit(x, P, 1, 1);
+        for (int j = 3; j >= 0; j--) {
+            for (int k = 0; k <= 2; k++) {
+                x.cut(2, 0);
+                due("boot(), the flash is blank: a step has two acts", x.boot(), ScratchSwap.DOWN);
+                x.power();
+                for (int unit = 2; unit < 32; unit++) {
+                    boolean ofLater = unit >= 4 + 3 * (j + 1) && unit <= 15;
+                    boolean ofThis = unit >= 4 + 3 * j && unit <= 4 + 3 * j + k;
+                    due("STEP " + k + " of " + j + ", UNIT " + unit, x.flash(P + 8 * unit), ofLater || ofThis ? 1 : 255);
+                }
             }
         }
     }
