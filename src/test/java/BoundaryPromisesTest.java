@@ -117,8 +117,9 @@ public final class BoundaryPromisesTest {
         ScratchSwap x = new ScratchSwap();
         due("taped()", x.taped(), 0);
         due("end(1)", x.end(1), false);
-        due("look(1)", x.look(1), 0);
-        due("look(4)", x.look(4), NONE);
+        for (int what = 0; what <= 8; what++) {
+            due("look(" + what + ")", x.look(what), what == 4 ? NONE : 0);
+        }
         due("install(1) of an empty tape", x.install(1), 0);
         for (int at = 0; at < Sample.FLASH; at++) {
             due("flash(" + at + ")", x.flash(at), 255);
