@@ -44,17 +44,17 @@ public final class BoundaryBootTest {
         CHECK.due(call, got, want);
     }
 
-    private static ScratchSwap ready() {
+    private static Swap ready() {
         return Sample.ready(0, 0);
     }
 
-    private static void makeWrong(ScratchSwap x, int slot) {
+    private static void makeWrong(Swap x, int slot) {
         x.harm(slot * SECOND + 8, 0);
         x.harm(slot * SECOND + 9, 0);
         due("image(" + slot + ", 0)", x.image(slot, 0), 0);
     }
 
-    private static int actsOfBoot(ScratchSwap x, int answer) {
+    private static int actsOfBoot(Swap x, int answer) {
         int before = x.look(3);
         due("boot()", x.boot(), answer);
         return x.look(3) - before;
@@ -65,7 +65,7 @@ public final class BoundaryBootTest {
                 "AN EXCHANGE is UNDER WAY, if the PRIMARY TRAILER's KIND is SET and its DONE is not.");
         for (int kind = 0; kind <= 4; kind++) {
             for (int done = 0; done <= 4; done++) {
-                ScratchSwap x = ready();
+                Swap x = ready();
                 Sample.harmUnit(x, P, KIND, kind);
                 Sample.harmUnit(x, P, DONE, done);
                 boolean under = kind >= 1 && kind <= 3 && done != 1;
@@ -75,7 +75,7 @@ public final class BoundaryBootTest {
                 due(name + ", install(0)", x.install(0), under ? ScratchSwap.BUSY : 0);
             }
         }
-        ScratchSwap x = ready();
+        Swap x = ready();
         Sample.harmUnit(x, P, KIND, 1);
         due("DONE is blank", x.due(), 5);
         x.harm(P + 15, 0);
@@ -89,7 +89,7 @@ public final class BoundaryBootTest {
     /** All four hold; one after the other is taken away. */
     private static void theFirstThatHolds() {
         CHECK.sentence("Terms 3", "What is DUE: the first of these that holds.");
-        ScratchSwap x = ready();
+        Swap x = ready();
         Sample.harmMagic(x, P);
         Sample.harmUnit(x, P, KIND, 1);
         Sample.harmUnit(x, S, KIND, 3);
@@ -110,7 +110,7 @@ public final class BoundaryBootTest {
     private static void resumeIsFirst() {
         CHECK.sentence("Terms 3", "5 RESUME: one is UNDER WAY.");
         for (int kind = 0; kind <= 3; kind++) {
-            ScratchSwap x = ready();
+            Swap x = ready();
             Sample.harmUnit(x, S, KIND, kind);
             makeWrong(x, 1);
             makeWrong(x, 0);
@@ -123,7 +123,7 @@ public final class BoundaryBootTest {
 
     private static void backByTheSecondaryKind() {
         CHECK.sentence("Terms 3", "The SECONDARY TRAILER's KIND is SET with 3: 3 BACK.");
-        ScratchSwap x = ready();
+        Swap x = ready();
         Sample.harmUnit(x, S, KIND, 3);
         due("the image is right", x.due(), 3);
         makeWrong(x, 1);
@@ -139,18 +139,18 @@ public final class BoundaryBootTest {
         CHECK.sentence("Terms 3",
                 "That KIND is SET with 1 or 2, or its MAGIC is good (KIND is 2 then, if OK is SET, else 1)");
         for (int kind = 0; kind <= 4; kind++) {
-            ScratchSwap x = ready();
+            Swap x = ready();
             Sample.harmUnit(x, S, KIND, kind);
             due("KIND " + kind + " without MAGIC", x.due(), kind == 4 ? 0 : kind);
         }
         for (int ok = 0; ok <= 4; ok++) {
-            ScratchSwap x = ready();
+            Swap x = ready();
             Sample.harmUnit(x, S, OK, ok);
             due("OK " + ok + " alone", x.due(), 0);
             Sample.harmMagic(x, S);
             due("OK " + ok + " with MAGIC", x.due(), ok == 1 ? 2 : 1);
         }
-        ScratchSwap x = ready();
+        Swap x = ready();
         Sample.harmMagic(x, S);
         due("MAGIC alone", x.due(), 1);
         x.harm(S + 7, 32);
@@ -165,7 +165,7 @@ public final class BoundaryBootTest {
         CHECK.sentence("Terms 3", "or its MAGIC is good (KIND is 2 then, if OK is SET, else 1): that KIND");
         for (int kind = 1; kind <= 2; kind++) {
             for (int ok = 1; ok <= 2; ok++) {
-                ScratchSwap x = ready();
+                Swap x = ready();
                 Sample.harmMagic(x, S);
                 Sample.harmUnit(x, S, OK, ok);
                 due("MAGIC, OK " + ok, x.due(), ok == 1 ? 2 : 1);
@@ -178,7 +178,7 @@ public final class BoundaryBootTest {
     private static void rightElseWrong() {
         CHECK.sentence("Terms 3", "that KIND, if the SECONDARY IMAGE is RIGHT, else 4 WRONG.");
         for (int kind = 1; kind <= 2; kind++) {
-            ScratchSwap x = ready();
+            Swap x = ready();
             x.request(kind == 2);
             due("request, right", x.due(), kind);
             makeWrong(x, 0);
@@ -191,7 +191,7 @@ public final class BoundaryBootTest {
             makeWrong(x, 1);
             due("KIND, wrong", x.due(), 4);
         }
-        ScratchSwap x = new ScratchSwap();
+        Swap x = new Swap();
         Sample.put(x, 0, 1, 0);
         x.boot();
         x.request(true);
@@ -209,7 +209,7 @@ public final class BoundaryBootTest {
         due("DONE 2", primary(0, 1, 2, 0).due(), 5);
         due("OK 1", primary(0, 1, 1, 1).due(), 0);
         due("OK 2", primary(0, 1, 1, 2).due(), 3);
-        ScratchSwap x = primary(0, 1, 1, 0);
+        Swap x = primary(0, 1, 1, 0);
         makeWrong(x, 1);
         makeWrong(x, 0);
         due("whatever the images are", x.due(), 3);
@@ -217,8 +217,8 @@ public final class BoundaryBootTest {
         due("but behind what the secondary trailer asks for", x.due(), 4);
     }
 
-    private static ScratchSwap primary(int magicLost, int kind, int done, int ok) {
-        ScratchSwap x = ready();
+    private static Swap primary(int magicLost, int kind, int done, int ok) {
+        Swap x = ready();
         Sample.harmMagic(x, P);
         x.harm(P, 255 - magicLost);
         Sample.harmUnit(x, P, KIND, kind);
@@ -229,7 +229,7 @@ public final class BoundaryBootTest {
 
     private static void elseNothing() {
         CHECK.sentence("Terms 3", "Else 0, nothing.");
-        ScratchSwap x = new ScratchSwap();
+        Swap x = new Swap();
         due("a new object", x.due(), 0);
         due("acts of its boot()", actsOfBoot(x, 0), 0);
         x = ready();
@@ -241,7 +241,7 @@ public final class BoundaryBootTest {
 
     private static void wrongErasesOneTrailer() {
         CHECK.sentence("Terms 3", "boot(): of 4 the SECONDARY TRAILER is ERASED.");
-        ScratchSwap x = ready();
+        Swap x = ready();
         makeWrong(x, 1);
         x.request(true);
         Sample.harmUnit(x, S, 31, 0);
@@ -263,12 +263,12 @@ public final class BoundaryBootTest {
     private static void kindIsMarkedIfNotSet() {
         CHECK.sentence("Terms 3", "(a) if the SECONDARY TRAILER's KIND is not SET with that, it is MARKED so");
         for (int kind = 1; kind <= 3; kind++) {
-            ScratchSwap x = ready();
+            Swap x = ready();
             Sample.harmUnit(x, S, KIND, kind);
             due("acts, KIND " + kind + " is SET", actsOfBoot(x, 1), kind == 1 ? 44 : 45);
         }
         for (int kind = 1; kind <= 2; kind++) {
-            ScratchSwap x = ready();
+            Swap x = ready();
             x.request(kind == 2);
             x.cut(1, 0);
             x.boot();
@@ -279,7 +279,7 @@ public final class BoundaryBootTest {
             x.request(kind == 2);
             due("acts, KIND is not SET", actsOfBoot(x, 1), kind == 1 ? 45 : 46);
         }
-        ScratchSwap x = ready();
+        Swap x = ready();
         x.request(false);
         x.boot();
         x.cut(1, 0);
@@ -290,7 +290,7 @@ public final class BoundaryBootTest {
     private static void primaryTrailerBegins() {
         CHECK.sentence("Terms 3", "(b) the PRIMARY TRAILER is ERASED; (c) its KIND is MARKED so.");
         for (int kind = 1; kind <= 3; kind++) {
-            ScratchSwap x = ready();
+            Swap x = ready();
             Sample.harmUnit(x, S, KIND, kind);
             for (int unit = 2; unit <= 31; unit++) {
                 Sample.harmUnit(x, P, unit, 1);
@@ -319,7 +319,7 @@ public final class BoundaryBootTest {
         CHECK.sentence("Terms 3", "of each for its STEPS 0, 1, 2, if that STEP is not SET");
         for (int left = 4; left <= 15; left++) {
             for (int mark = 1; mark <= 3; mark++) {
-                ScratchSwap x = marked();
+                Swap x = marked();
                 Sample.harmUnit(x, P, KIND, 1);
                 for (int unit = 4; unit <= 15; unit++) {
                     Sample.harmUnit(x, P, unit, unit == left ? mark : 1);
@@ -327,7 +327,7 @@ public final class BoundaryBootTest {
                 stepDoneAlone(x, left, mark);
             }
         }
-        ScratchSwap x = marked();
+        Swap x = marked();
         Sample.harmUnit(x, P, KIND, 1);
         due("no step is SET", x.trailer(0, 4), 0);
         x.boot();
@@ -339,8 +339,8 @@ public final class BoundaryBootTest {
     }
 
     /** In each sector that an exchange touches, the first byte is the sector's number. */
-    private static ScratchSwap marked() {
-        ScratchSwap x = new ScratchSwap();
+    private static Swap marked() {
+        Swap x = new Swap();
         for (int sector = 0; sector <= 10; sector++) {
             if (sector != 4 && sector != 9) {
                 x.harm(256 * sector, sector);
@@ -349,7 +349,7 @@ public final class BoundaryBootTest {
         return x;
     }
 
-    private static void stepDoneAlone(ScratchSwap x, int unit, int mark) {
+    private static void stepDoneAlone(Swap x, int unit, int mark) {
         int j = (unit - 4) / 3;
         int k = (unit - 4) % 3;
         int from = k == 0 ? 5 + j : k == 1 ? j : 10;
@@ -369,7 +369,7 @@ public final class BoundaryBootTest {
 
     private static void stepsInTheirOrder() {
         CHECK.sentence("Terms 3", "then for the SECTORS j 3, 2, 1, 0, of each for its STEPS 0, 1, 2");
-        ScratchSwap x = marked();
+        Swap x = marked();
         Sample.harmUnit(x, P, KIND, 1);
         for (int step = 0; step < 12; step++) {
             int unit = 4 + 3 * (3 - step / 3) + step % 3;
@@ -398,7 +398,7 @@ public final class BoundaryBootTest {
         int[] from = {8, 3, 8};
         for (int k = 0; k <= 2; k++) {
             for (int acts = 0; acts <= 3; acts++) {
-                ScratchSwap x = marked();
+                Swap x = marked();
                 Sample.harmUnit(x, P, KIND, 1);
                 x.cut(3 * k + acts, 0);
                 due("boot()", x.boot(), ScratchSwap.DOWN);
@@ -415,7 +415,7 @@ public final class BoundaryBootTest {
                 "(e) if the KIND is 2 or 3, and the PRIMARY TRAILER's OK is not SET, it is MARKED");
         for (int kind = 1; kind <= 3; kind++) {
             for (int ok = 0; ok <= 3; ok++) {
-                ScratchSwap x = lastSteps(kind);
+                Swap x = lastSteps(kind);
                 if (ok != 0) {
                     Sample.harmUnit(x, P, OK, ok);
                 }
@@ -428,8 +428,8 @@ public final class BoundaryBootTest {
     }
 
     /** An exchange under way whose twelve steps are done. */
-    private static ScratchSwap lastSteps(int kind) {
-        ScratchSwap x = ready();
+    private static Swap lastSteps(int kind) {
+        Swap x = ready();
         Sample.harmUnit(x, P, KIND, kind);
         for (int unit = 4; unit <= 15; unit++) {
             Sample.harmUnit(x, P, unit, 1);
@@ -442,7 +442,7 @@ public final class BoundaryBootTest {
                 + "TRAILER's OK is not SET, it is MARKED; (f) its MAGIC is WRITTEN; (g) its DONE is MARKED with 1: "
                 + "the EXCHANGE is over.");
         for (int acts = 0; acts <= 4; acts++) {
-            ScratchSwap x = lastSteps(2);
+            Swap x = lastSteps(2);
             x.request(true);
             x.harm(S + 255, 0);
             x.cut(acts, 31);
@@ -459,7 +459,7 @@ public final class BoundaryBootTest {
 
     private static void magicAndDoneWhateverIsThere() {
         CHECK.sentence("Terms 3", "(f) its MAGIC is WRITTEN; (g) its DONE is MARKED with 1: the EXCHANGE is over.");
-        ScratchSwap x = lastSteps(1);
+        Swap x = lastSteps(1);
         Sample.harmMagic(x, P);
         due("MAGIC is good, acts", actsOfBoot(x, 1), 3);
         x = lastSteps(1);
@@ -482,14 +482,14 @@ public final class BoundaryBootTest {
     private static void whateverWasDue() {
         CHECK.sentence("Terms 3", "At last, whatever was DUE: if the PRIMARY IMAGE is RIGHT, it RUNS.");
         for (int what = 0; what <= 5; what++) {
-            ScratchSwap x = asked(what);
+            Swap x = asked(what);
             int runs = what == 0 || what == 4 ? 1 : 2;
             due("due " + what + ", boot()", x.boot(), 1);
             due("due " + what + ", look(1)", x.look(1), 1);
             due("due " + what + ", look(2)", x.look(2), runs);
         }
         for (int what = 0; what <= 5; what++) {
-            ScratchSwap x = asked(what);
+            Swap x = asked(what);
             if (what == 3 || what == 5) {
                 makeWrong(x, 1);
             } else {
@@ -502,8 +502,8 @@ public final class BoundaryBootTest {
         }
     }
 
-    private static ScratchSwap asked(int what) {
-        ScratchSwap x = ready();
+    private static Swap asked(int what) {
+        Swap x = ready();
         if (what == 1 || what == 2) {
             x.request(what == 2);
         }
@@ -524,7 +524,7 @@ public final class BoundaryBootTest {
     private static void runsTill() {
         CHECK.sentence("Terms 3",
                 "What RUNS does so till power goes or comes, boot() begins, or the PRIMARY slot is installed anew.");
-        ScratchSwap x = ready();
+        Swap x = ready();
         runs("boot()", x, 1);
         x.cut(6, 0);
         runs("cut() alone", x, 1);
@@ -571,7 +571,7 @@ public final class BoundaryBootTest {
         runs("confirm() in which power went", x, 0);
     }
 
-    private static void runs(String behind, ScratchSwap x, int want) {
+    private static void runs(String behind, Swap x, int want) {
         due("look(1) behind " + behind, x.look(1), want);
         due("look(2) behind " + behind, x.look(2) != 0, want == 1);
     }
@@ -582,7 +582,7 @@ public final class BoundaryBootTest {
 
     private static void refusedChangesNothing() {
         CHECK.sentence("Terms 3", "A call that is refused (below 0) changes nothing but what is said.");
-        ScratchSwap x = ready();
+        Swap x = ready();
         Sample.harmUnit(x, P, KIND, 1);
         x.cut(7, 7);
         refused("install(-1)", x, () -> x.install(-1), ScratchSwap.NONE);
@@ -614,7 +614,7 @@ public final class BoundaryBootTest {
         due("taped(), as is said of install", x.taped(), 0);
     }
 
-    private static void refused(String call, ScratchSwap x, IntSupplier refusal, int want) {
+    private static void refused(String call, Swap x, IntSupplier refusal, int want) {
         int[] before = Sample.seen(x);
         due(call, refusal.getAsInt(), want);
         Sample.unchanged(CHECK, call, x, before);
@@ -622,7 +622,7 @@ public final class BoundaryBootTest {
 
     private static void theOneToldFirst() {
         CHECK.sentence("Terms 3", "Of several answers below 0 the one told first.");
-        ScratchSwap x = ready();
+        Swap x = ready();
         due("install(2)", x.install(2), ScratchSwap.NONE);
         Sample.harmUnit(x, P, KIND, 1);
         due("install(0), busy", x.install(0), ScratchSwap.BUSY);
@@ -643,7 +643,7 @@ public final class BoundaryBootTest {
 
     private static void usesTheTapeUp() {
         CHECK.sentence("Terms 3", "\"Uses the TAPE up\": it is empty behind the call, whatever comes of it.");
-        ScratchSwap x = ready();
+        Swap x = ready();
         tapeUsedUp("done", x, 1, 20);
         tapeUsedUp("no such slot", x, 2, ScratchSwap.NONE);
         tapeUsedUp("no such slot", x, -1, ScratchSwap.NONE);
@@ -660,7 +660,7 @@ public final class BoundaryBootTest {
         due("taped() behind other calls", x.taped(), 20);
     }
 
-    private static void tapeUsedUp(String name, ScratchSwap x, int slot, int answer) {
+    private static void tapeUsedUp(String name, Swap x, int slot, int answer) {
         due("feed", x.feed(1, 2, 3, 4, 5), 20);
         due("install(" + slot + "), " + name, x.install(slot), answer);
         due("taped(), " + name, x.taped(), 0);

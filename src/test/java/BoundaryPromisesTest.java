@@ -79,26 +79,26 @@ public final class BoundaryPromisesTest {
         CHECK.due(call, got, want);
     }
 
-    private static ScratchSwap ready() {
+    private static Swap ready() {
         return Sample.ready(0, 0);
     }
 
     /** Version 2 runs on trial. */
-    private static ScratchSwap onTrial() {
-        ScratchSwap x = ready();
+    private static Swap onTrial() {
+        Swap x = ready();
         x.request(false);
         x.boot();
         return x;
     }
 
-    private static ScratchSwap down() {
-        ScratchSwap x = ready();
+    private static Swap down() {
+        Swap x = ready();
         x.cut(0, 0);
         x.request(false);
         return x;
     }
 
-    private static void makeWrong(ScratchSwap x, int slot) {
+    private static void makeWrong(Swap x, int slot) {
         x.harm(slot * SECOND + 8, 0);
         x.harm(slot * SECOND + 9, 0);
     }
@@ -114,7 +114,7 @@ public final class BoundaryPromisesTest {
 
     private static void newObjectIsEmpty() {
         CHECK.sentence("Promise 1", "An empty FLASH, an empty TAPE; nothing RUNS; power does not go.");
-        ScratchSwap x = new ScratchSwap();
+        Swap x = new Swap();
         due("taped()", x.taped(), 0);
         due("end(1)", x.end(1), false);
         for (int what = 0; what <= 8; what++) {
@@ -124,13 +124,13 @@ public final class BoundaryPromisesTest {
         for (int at = 0; at < Sample.FLASH; at++) {
             due("flash(" + at + ")", x.flash(at), 255);
         }
-        due("a new object knows nothing of others", new ScratchSwap().look(3), 0);
+        due("a new object knows nothing of others", new Swap().look(3), 0);
     }
 
     private static void feedTwentyBytes() {
         CHECK.sentence("Promise 2", "Twenty bytes come behind the TAPE, of each number the highest first: "
                 + "how many it has");
-        ScratchSwap x = new ScratchSwap();
+        Swap x = new Swap();
         due("feed to an empty tape", x.feed(0x01020304, 0x05060708, 0x090a0b0c, 0x0d0e0f10, 0x11121314), 20);
         x.end(19);
         due("feed behind 19 bytes", x.feed(0x21222324, 0, 0, 0, 0x25262728), 39);
@@ -142,7 +142,7 @@ public final class BoundaryPromisesTest {
 
     private static void feedHighestFirst() {
         CHECK.sentence("Promise 2", "of each number the highest first");
-        ScratchSwap x = new ScratchSwap();
+        Swap x = new Swap();
         x.feed(0, -1, MIN, MAX, 0x80ff7f01);
         x.install(0);
         Sample.same(CHECK, "fed", x, 0, new int[] {0, 0, 0, 0, 255, 255, 255, 255, 128, 0, 0, 0, 127, 255, 255, 255,
@@ -152,7 +152,7 @@ public final class BoundaryPromisesTest {
     private static void feedUpTo1024() {
         CHECK.sentence("Promise 2", "NONE, and none come, if it would have more than 1024.");
         for (int have = 1003; have <= 1024; have++) {
-            ScratchSwap x = new ScratchSwap();
+            Swap x = new Swap();
             int[] row = Sample.row(have);
             Sample.feedBytes(x, row);
             boolean fits = have <= 1004;
@@ -167,7 +167,7 @@ public final class BoundaryPromisesTest {
     private static void endKeepsTheFirst() {
         CHECK.sentence("Promise 3", "The TAPE has its first n bytes alone: true");
         for (int n : new int[] {0, 1, 19, 20}) {
-            ScratchSwap x = new ScratchSwap();
+            Swap x = new Swap();
             x.feed(0x01020304, 0x05060708, 0x090a0b0c, 0x0d0e0f10, 0x11121314);
             due("end(" + n + ")", x.end(n), true);
             due("taped()", x.taped(), n);
@@ -176,7 +176,7 @@ public final class BoundaryPromisesTest {
                 due("flash(" + at + ")", x.flash(at), at < n ? at + 1 : 255);
             }
         }
-        ScratchSwap x = new ScratchSwap();
+        Swap x = new Swap();
         due("end(0) of an empty tape", x.end(0), true);
         Sample.feedBytes(x, Sample.row(1024));
         due("end(1024) of a full tape", x.end(1024), true);
@@ -188,7 +188,7 @@ public final class BoundaryPromisesTest {
     private static void endRefused() {
         CHECK.sentence("Promise 3", "false, and nothing happens, if it has fewer, or n is below 0.");
         for (int have : new int[] {0, 20, 1024}) {
-            ScratchSwap x = new ScratchSwap();
+            Swap x = new Swap();
             int[] row = Sample.row(have);
             Sample.feedBytes(x, row);
             for (int n : new int[] {-1, have + 1, 1025, MIN, MAX, -have - 1}) {
@@ -203,14 +203,14 @@ public final class BoundaryPromisesTest {
     private static void tapedFromNoneTo1024() {
         CHECK.sentence("Promise 4", "How many bytes the TAPE has.");
         for (int have : new int[] {0, 1, 19, 20, 21, 984, 1004, 1023, 1024}) {
-            ScratchSwap x = new ScratchSwap();
+            Swap x = new Swap();
             Sample.feedBytes(x, Sample.row(have));
             due("taped()", x.taped(), have);
             due("taped() again", x.taped(), have);
             x.install(0);
             due("taped(), used up", x.taped(), 0);
         }
-        ScratchSwap x = down();
+        Swap x = down();
         x.feed(1, 2, 3, 4, 5);
         due("taped() while it is down", x.taped(), 20);
     }
@@ -221,7 +221,7 @@ public final class BoundaryPromisesTest {
         int[] versions = {0, 1, -1, MIN, MAX, 0x00ff0000, 0xff000000};
         int[] lengths = {0, 1, 984, 20, 7, 8, 983};
         for (int i = 0; i < versions.length; i++) {
-            ScratchSwap x = new ScratchSwap();
+            Swap x = new Swap();
             int[] image = Sample.imageByHand(lengths[i], lengths[i], versions[i]);
             Sample.feedBytes(x, Arrays.copyOfRange(image, 8, 8 + lengths[i]));
             due("pack(" + versions[i] + ") of " + lengths[i], x.pack(versions[i]), lengths[i] + 40);
@@ -236,7 +236,7 @@ public final class BoundaryPromisesTest {
     private static void packUpTo984() {
         CHECK.sentence("Promise 5", "NONE, and it stays, if it has more than 984.");
         for (int have : new int[] {983, 984, 985, 986, 1023, 1024}) {
-            ScratchSwap x = new ScratchSwap();
+            Swap x = new Swap();
             int[] row = Sample.row(have);
             Sample.feedBytes(x, row);
             due("pack of " + have, x.pack(3), have <= 984 ? have + 40 : NONE);
@@ -245,7 +245,7 @@ public final class BoundaryPromisesTest {
             Sample.same(CHECK, "its bytes", x, have <= 984 ? SECOND + 8 : SECOND, row);
             due("image(1, 0)", x.image(1, 0), have <= 984 ? 1 : 0);
         }
-        ScratchSwap x = new ScratchSwap();
+        Swap x = new Swap();
         Sample.feedBytes(x, Sample.row(944));
         due("pack of 944", x.pack(1), 984);
         due("pack of that image", x.pack(2), 1024);
@@ -258,7 +258,7 @@ public final class BoundaryPromisesTest {
     private static void installSlots() {
         CHECK.sentence("Promise 6", "a slot (0 PRIMARY, 1 SECONDARY)");
         for (int slot : new int[] {MIN, -1, 0, 1, 2, 3, MAX}) {
-            ScratchSwap x = ready();
+            Swap x = ready();
             int acts = x.look(3);
             x.feed(1, 2, 3, 4, 5);
             boolean is = slot == 0 || slot == 1;
@@ -275,7 +275,7 @@ public final class BoundaryPromisesTest {
                 + "then the TAPE's bytes are WRITTEN there");
         for (int slot = 0; slot <= 1; slot++) {
             for (int acts = 0; acts <= 7; acts++) {
-                ScratchSwap x = new ScratchSwap();
+                Swap x = new Swap();
                 for (int sector = 0; sector <= 10; sector++) {
                     x.harm(256 * sector + 255, 0);
                 }
@@ -311,7 +311,7 @@ public final class BoundaryPromisesTest {
     }
 
     private static int actsOfInstall(int[] tape) {
-        ScratchSwap x = new ScratchSwap();
+        Swap x = new Swap();
         Sample.feedBytes(x, tape);
         due("install(1)", x.install(1), tape.length);
         Sample.same(CHECK, "installed", x, SECOND, tape);
@@ -321,7 +321,7 @@ public final class BoundaryPromisesTest {
     private static void installLastUnit() {
         CHECK.sentence("Promise 6", "what the last one has behind the TAPE's end is 255)");
         for (int length = 1; length <= 17; length++) {
-            ScratchSwap x = new ScratchSwap();
+            Swap x = new Swap();
             x.feed(0, 0, 0, 0, 0);
             x.end(length);
             x.install(0);
@@ -329,7 +329,7 @@ public final class BoundaryPromisesTest {
                 due("of " + length + " zeros, flash(" + at + ")", x.flash(at), at < length ? 0 : 255);
             }
         }
-        ScratchSwap x = new ScratchSwap();
+        Swap x = new Swap();
         x.feed(-1, 0, 0, 0, 0);
         x.end(4);
         due("install of four times 255", x.install(0), 4);
@@ -339,7 +339,7 @@ public final class BoundaryPromisesTest {
     private static void installAnswersBytes() {
         CHECK.sentence("Promise 6", "how many bytes.");
         for (int have : new int[] {0, 1, 8, 20, 1023, 1024}) {
-            ScratchSwap x = new ScratchSwap();
+            Swap x = new Swap();
             Sample.feedBytes(x, Sample.row(have));
             due("install(0) of " + have, x.install(0), have);
             due("install(0) of nothing", x.install(0), 0);
@@ -349,7 +349,7 @@ public final class BoundaryPromisesTest {
 
     private static void installRefused() {
         CHECK.sentence("Promise 6", "DOWN; NONE: there is no such slot; BUSY.");
-        ScratchSwap x = onTrial();
+        Swap x = onTrial();
         due("install(1), an exchange is over", x.install(1), 0);
         Sample.harmUnit(x, P, 2, 0);
         due("install(1), one is under way", x.install(1), ScratchSwap.BUSY);
@@ -368,7 +368,7 @@ public final class BoundaryPromisesTest {
         CHECK.sentence("Promise 7", "for good or on trial: the SECONDARY TRAILER's OK is MARKED with 1 (for good), "
                 + "then its MAGIC is WRITTEN: 0.");
         for (int acts = 0; acts <= 2; acts++) {
-            ScratchSwap x = ready();
+            Swap x = ready();
             x.cut(acts, 31);
             due("request(true), cut(" + acts + ")", x.request(true), acts < 2 ? DOWN : 0);
             due("OK", x.trailer(1, 3), acts < 1 ? 0 : 1);
@@ -386,7 +386,7 @@ public final class BoundaryPromisesTest {
 
     private static void requestWhateverIsThere() {
         CHECK.sentence("Promise 7", "(Both whatever is there.)");
-        ScratchSwap x = ready();
+        Swap x = ready();
         int acts = x.look(3);
         for (int again = 1; again <= 3; again++) {
             due("request(true)", x.request(true), 0);
@@ -411,11 +411,11 @@ public final class BoundaryPromisesTest {
     private static void requestRefused() {
         CHECK.sentence("Promise 7", "DOWN; IDLE.");
         for (int good = 0; good <= 1; good++) {
-            ScratchSwap x = ready();
+            Swap x = ready();
             due("request, it runs", x.request(good == 1), 0);
             x.power();
             due("request, nothing runs", x.request(good == 1), IDLE);
-            x = new ScratchSwap();
+            x = new Swap();
             due("request of a new object", x.request(good == 1), IDLE);
             due("acts", x.look(3), 0);
             x = down();
@@ -430,7 +430,7 @@ public final class BoundaryPromisesTest {
 
     private static void confirmMarks() {
         CHECK.sentence("Promise 8", "What RUNS is confirmed: the PRIMARY TRAILER's OK is MARKED with 1: 1");
-        ScratchSwap x = onTrial();
+        Swap x = onTrial();
         int acts = x.look(3);
         due("due()", x.due(), 3);
         due("confirm()", x.confirm(), 1);
@@ -454,7 +454,7 @@ public final class BoundaryPromisesTest {
 
     private static void confirmDoesNothing() {
         CHECK.sentence("Promise 8", "0, doing nothing, if it is SET, or MAGIC is not good there.");
-        ScratchSwap x = onTrial();
+        Swap x = onTrial();
         x.confirm();
         int[] before = Sample.seen(x);
         due("confirm(), it is SET", x.confirm(), 0);
@@ -483,8 +483,8 @@ public final class BoundaryPromisesTest {
 
     private static void confirmRefused() {
         CHECK.sentence("Promise 8", "DOWN; IDLE.");
-        due("confirm() of a new object", new ScratchSwap().confirm(), IDLE);
-        ScratchSwap x = onTrial();
+        due("confirm() of a new object", new Swap().confirm(), IDLE);
+        Swap x = onTrial();
         x.power();
         due("confirm(), nothing runs", x.confirm(), IDLE);
         due("OK", x.trailer(0, 3), 0);
@@ -499,7 +499,7 @@ public final class BoundaryPromisesTest {
 
     private static void bootRunsOrNot() {
         CHECK.sentence("Promise 9", "the PRIMARY IMAGE RUNS, if it is RIGHT: 1 it RUNS, 0 nothing does.");
-        ScratchSwap x = new ScratchSwap();
+        Swap x = new Swap();
         due("boot(), the flash is empty", x.boot(), 0);
         due("look(1)", x.look(1), 0);
         Sample.put(x, 1, 5, 20);
@@ -517,14 +517,14 @@ public final class BoundaryPromisesTest {
 
     private static void bootRefused() {
         CHECK.sentence("Promise 9", "0 nothing does. DOWN.");
-        ScratchSwap x = down();
+        Swap x = down();
         due("boot(), down", x.boot(), DOWN);
         due("boots", x.look(5), 1);
         due("times power went", x.look(8), 1);
         x.power();
         due("boot(), up", x.boot(), 1);
         due("boots", x.look(5), 2);
-        x = new ScratchSwap();
+        x = new Swap();
         x.cut(0, 0);
         due("boot() that does not act", x.boot(), 0);
         x.install(0);
@@ -535,13 +535,13 @@ public final class BoundaryPromisesTest {
         CHECK.sentence("Promise 10", "false for acts not 0 .. 100000, units not 0 .. 31, or if it is DOWN.");
         int[] bad = {MIN, -1, 100001, 100032, MAX};
         for (int acts : bad) {
-            ScratchSwap x = new ScratchSwap();
+            Swap x = new Swap();
             due("cut(" + acts + ", 0)", x.cut(acts, 0), false);
             due("look(4)", x.look(4), NONE);
             due("install(0)", x.install(0), 0);
         }
         for (int units : new int[] {MIN, -1, 32, 33, 256, MAX}) {
-            ScratchSwap x = new ScratchSwap();
+            Swap x = new Swap();
             due("cut(0, " + units + ")", x.cut(0, units), false);
             due("look(4)", x.look(4), NONE);
             due("cut(7, 7)", x.cut(7, 7), true);
@@ -551,7 +551,7 @@ public final class BoundaryPromisesTest {
         int[] good = {0, 1, 99999, 100000};
         for (int acts : good) {
             for (int units : new int[] {0, 1, 30, 31}) {
-                ScratchSwap x = new ScratchSwap();
+                Swap x = new Swap();
                 due("cut(" + acts + ", " + units + ")", x.cut(acts, units), true);
                 due("look(4)", x.look(4), acts);
                 due("look(0)", x.look(0), 0);
@@ -561,7 +561,7 @@ public final class BoundaryPromisesTest {
 
     private static void cutInPlaceOfBefore() {
         CHECK.sentence("Promise 10", "So many ACTS more are done, then power goes, in place of what was told before");
-        ScratchSwap x = new ScratchSwap();
+        Swap x = new Swap();
         x.harm(7, 0);
         x.harm(8, 0);
         x.cut(1, 31);
@@ -580,7 +580,7 @@ public final class BoundaryPromisesTest {
     /** Two full images are exchanged till the most that can be told is done: 830 acts in three calls, 477 calls. */
     private static void cutMostActs() {
         CHECK.sentence("Promise 10", "acts not 0 .. 100000");
-        ScratchSwap x = new ScratchSwap();
+        Swap x = new Swap();
         for (int slot = 0; slot <= 1; slot++) {
             Sample.feedBytes(x, Sample.imageByHand(984, 984, slot + 1));
             x.install(slot);
@@ -601,13 +601,13 @@ public final class BoundaryPromisesTest {
     private static void cutEraseUnits() {
         CHECK.sentence("Promise 10", "of an ERASE that is cut so many UNITS are erased: true");
         for (int units : new int[] {0, 1, 30, 31}) {
-            ScratchSwap x = new ScratchSwap();
-            for (int at = 0; at < 512; at++) {
+            Swap x = new Swap();
+            for (int at = 0; at < 264; at++) {
                 x.harm(at, 0);
             }
             due("cut(0, " + units + ")", x.cut(0, units), true);
             due("install(0)", x.install(0), DOWN);
-            for (int at = 0; at < 512; at++) {
+            for (int at = 0; at < 264; at++) {
                 due(units + " units, flash(" + at + ")", x.flash(at), at < 8 * units ? 255 : 0);
             }
         }
@@ -615,7 +615,7 @@ public final class BoundaryPromisesTest {
 
     private static void cutWhileDown() {
         CHECK.sentence("Promise 10", "or if it is DOWN.");
-        ScratchSwap x = ready();
+        Swap x = ready();
         x.cut(0, 0);
         due("cut(0, 0), told but not gone", x.cut(0, 0), true);
         x.request(false);
@@ -629,7 +629,7 @@ public final class BoundaryPromisesTest {
 
     private static void powerThatHadNotGone() {
         CHECK.sentence("Promise 11", "Power comes (also if it had not gone: it goes and comes)");
-        ScratchSwap x = ready();
+        Swap x = ready();
         x.feed(1, 2, 3, 4, 5);
         int[] before = Sample.seen(x);
         x.power();
@@ -650,7 +650,7 @@ public final class BoundaryPromisesTest {
 
     private static void powerDoesNotGoAgain() {
         CHECK.sentence("Promise 11", "and does not go any more as told before; nothing RUNS.");
-        ScratchSwap x = ready();
+        Swap x = ready();
         x.cut(1, 0);
         x.power();
         due("look(4)", x.look(4), NONE);
@@ -667,7 +667,7 @@ public final class BoundaryPromisesTest {
 
     private static void harmBounds() {
         CHECK.sentence("Promise 12", "false, doing nothing, if there is none such.");
-        ScratchSwap x = ready();
+        Swap x = ready();
         int[] before = Sample.seen(x);
         for (int at : new int[] {MIN, -256, -1, 2816, 2817, 65536, MAX}) {
             due("harm(" + at + ", 0)", x.harm(at, 0), false);
@@ -686,7 +686,7 @@ public final class BoundaryPromisesTest {
         int[] kept = {0, 1, 127, 128, 254, 255, 256, 257, -1, -256, MIN, MAX};
         int[] want = {0, 1, 127, 128, 254, 255, 0, 1, 255, 0, 0, 255};
         for (int i = 0; i < kept.length; i++) {
-            ScratchSwap x = new ScratchSwap();
+            Swap x = new Swap();
             due("harm(9, " + kept[i] + ")", x.harm(9, kept[i]), true);
             due("flash(9)", x.flash(9), want[i]);
             due("harm(9, 255)", x.harm(9, 255), true);
@@ -700,7 +700,7 @@ public final class BoundaryPromisesTest {
 
     private static void harmIsNoAct() {
         CHECK.sentence("Promise 12", "(no ACT; also if it is DOWN): true");
-        ScratchSwap x = ready();
+        Swap x = ready();
         int acts = x.look(3);
         x.cut(0, 0);
         due("harm(100, 7)", x.harm(100, 7), true);
@@ -719,7 +719,7 @@ public final class BoundaryPromisesTest {
     private static void flashBounds() {
         CHECK.sentence("Promise 13", "A byte of the FLASH; NONE if there is none such. (Also if it is DOWN.)");
         for (int isDown = 0; isDown <= 1; isDown++) {
-            ScratchSwap x = isDown == 1 ? down() : ready();
+            Swap x = isDown == 1 ? down() : ready();
             due("look(0)", x.look(0), isDown);
             x.harm(0, 0);
             x.harm(2815, 200);
@@ -734,7 +734,7 @@ public final class BoundaryPromisesTest {
 
     private static void dueWhileDown() {
         CHECK.sentence("Promise 14", "What is DUE now: 0 to 5. (Also if it is DOWN.)");
-        ScratchSwap x = down();
+        Swap x = down();
         due("due(), down", x.due(), 0);
         Sample.harmMagic(x, S);
         due("due(), down, asked on trial", x.due(), 1);
@@ -757,7 +757,7 @@ public final class BoundaryPromisesTest {
         CHECK.sentence("Promise 15", "NONE for another slot or what.");
         int[] outside = {MIN, -2, -1, 2, 3, 5, MAX};
         for (int isDown = 0; isDown <= 1; isDown++) {
-            ScratchSwap x = isDown == 1 ? down() : ready();
+            Swap x = isDown == 1 ? down() : ready();
             for (int odd : outside) {
                 for (int what = -1; what <= 3; what++) {
                     due("image(" + odd + ", " + what + ")", x.image(odd, what), NONE);
@@ -771,7 +771,7 @@ public final class BoundaryPromisesTest {
                 due("image(" + slot + ", 1)", x.image(slot, 1), 0);
             }
         }
-        ScratchSwap x = new ScratchSwap();
+        Swap x = new Swap();
         due("image(0, 3) of an empty slot", x.image(0, 3), NONE);
         due("image(2, 0) of an empty flash", x.image(2, 0), NONE);
     }
@@ -781,7 +781,7 @@ public final class BoundaryPromisesTest {
                 "what 0: 1 if it is RIGHT, else 0; if it is RIGHT 1 its LENGTH, 2 its VERSION (0 if it isn't).");
         for (int length : new int[] {0, 1, 984}) {
             for (int version : new int[] {0, -1, MIN, MAX}) {
-                ScratchSwap x = new ScratchSwap();
+                Swap x = new Swap();
                 Sample.feedBytes(x, Sample.imageByHand(length, length, version));
                 x.install(1);
                 due("image(1, 0), right", x.image(1, 0), 1);
@@ -803,7 +803,7 @@ public final class BoundaryPromisesTest {
         CHECK.sentence("Promise 16", "NONE for another slot or what.");
         int[] outside = {MIN, -2, -1, 5, 6, 16, MAX};
         for (int isDown = 0; isDown <= 1; isDown++) {
-            ScratchSwap x = isDown == 1 ? down() : ready();
+            Swap x = isDown == 1 ? down() : ready();
             for (int odd : outside) {
                 for (int what = -1; what <= 5; what++) {
                     due("trailer(" + odd + ", " + what + ")", x.trailer(odd, what), NONE);
@@ -824,7 +824,7 @@ public final class BoundaryPromisesTest {
                 + "2 DONE, 3 OK (1 if SET, else 0); 4 how many STEPS are SET.");
         for (int slot = 0; slot <= 1; slot++) {
             int trailer = slot == 0 ? P : S;
-            ScratchSwap x = new ScratchSwap();
+            Swap x = new Swap();
             Sample.harmMagic(x, trailer);
             answers(x, slot, new int[] {1, 0, 0, 0, 0});
             Sample.harmUnit(x, trailer, 1, 3);
@@ -848,7 +848,7 @@ public final class BoundaryPromisesTest {
         }
     }
 
-    private static void answers(ScratchSwap x, int slot, int[] want) {
+    private static void answers(Swap x, int slot, int[] want) {
         for (int what = 0; what <= 4; what++) {
             due("trailer(" + slot + ", " + what + ")", x.trailer(slot, what), want[what]);
         }
@@ -856,7 +856,7 @@ public final class BoundaryPromisesTest {
 
     private static void wearBounds() {
         CHECK.sentence("Promise 17", "NONE if there is none such.");
-        ScratchSwap x = ready();
+        Swap x = ready();
         for (int sector : new int[] {MIN, -1, 11, 12, 256, MAX}) {
             due("wear(" + sector + ")", x.wear(sector), NONE);
         }
@@ -868,7 +868,7 @@ public final class BoundaryPromisesTest {
     private static void wearCountsCutOnes() {
         CHECK.sentence("Promise 17", "How often a SECTOR was ERASED (cut ones count, too)");
         for (int units : new int[] {0, 1, 31}) {
-            ScratchSwap x = new ScratchSwap();
+            Swap x = new Swap();
             x.cut(2, units);
             x.install(0);
             for (int sector = 0; sector <= 10; sector++) {
@@ -890,7 +890,7 @@ public final class BoundaryPromisesTest {
     private static void lookBounds() {
         CHECK.sentence("Promise 18", "NONE for another what.");
         for (int isDown = 0; isDown <= 1; isDown++) {
-            ScratchSwap x = isDown == 1 ? down() : ready();
+            Swap x = isDown == 1 ? down() : ready();
             for (int what : new int[] {MIN, -1, 9, 10, MAX}) {
                 due("look(" + what + ")", x.look(what), NONE);
             }
@@ -901,7 +901,7 @@ public final class BoundaryPromisesTest {
 
     private static void lookDown() {
         CHECK.sentence("Promise 18", "0: 1 if it is DOWN, else 0");
-        ScratchSwap x = ready();
+        Swap x = ready();
         due("look(0)", x.look(0), 0);
         x.cut(1, 0);
         due("look(0), told", x.look(0), 0);
@@ -915,7 +915,7 @@ public final class BoundaryPromisesTest {
 
     private static void lookRuns() {
         CHECK.sentence("Promise 18", "1: 1 if something RUNS, else 0");
-        ScratchSwap x = new ScratchSwap();
+        Swap x = new Swap();
         due("look(1)", x.look(1), 0);
         Sample.put(x, 0, 0, 0);
         due("look(1), installed", x.look(1), 0);
@@ -928,7 +928,7 @@ public final class BoundaryPromisesTest {
     private static void lookVersion() {
         CHECK.sentence("Promise 18", "2 the VERSION of what RUNS (0 without)");
         for (int version : new int[] {0, 1, -1, MIN, MAX}) {
-            ScratchSwap x = new ScratchSwap();
+            Swap x = new Swap();
             Sample.put(x, 0, version, 20);
             due("look(2), nothing runs", x.look(2), 0);
             x.boot();
@@ -943,7 +943,7 @@ public final class BoundaryPromisesTest {
     private static void lookActs() {
         CHECK.sentence("Promise 18", "3 ACTS done (an ERASE that is cut is none)");
         for (int units = 0; units <= 31; units += 31) {
-            ScratchSwap x = new ScratchSwap();
+            Swap x = new Swap();
             due("look(3)", x.look(3), 0);
             x.cut(3, units);
             x.install(0);
@@ -961,7 +961,7 @@ public final class BoundaryPromisesTest {
     private static void lookActsLeft() {
         CHECK.sentence("Promise 18",
                 "4 how many ACTS are still done till power goes (NONE if it does not go; 0 if it is DOWN)");
-        ScratchSwap x = ready();
+        Swap x = ready();
         due("look(4), not told", x.look(4), NONE);
         x.cut(2, 0);
         due("look(4), told", x.look(4), 2);
@@ -982,7 +982,7 @@ public final class BoundaryPromisesTest {
 
     private static void lookBoots() {
         CHECK.sentence("Promise 18", "5 boots that were not cut");
-        ScratchSwap x = new ScratchSwap();
+        Swap x = new Swap();
         x.boot();
         due("look(5), a boot without an image", x.look(5), 1);
         x = ready();
@@ -1006,13 +1006,13 @@ public final class BoundaryPromisesTest {
     private static void lookExchanges() {
         CHECK.sentence("Promise 18", "6 EXCHANGES that came to their end, by (g)");
         for (int acts = 43; acts <= 46; acts++) {
-            ScratchSwap x = ready();
+            Swap x = ready();
             x.request(false);
             x.cut(acts, 31);
             x.boot();
             due("look(6), cut(" + acts + ") of 45", x.look(6), acts < 45 ? 0 : 1);
         }
-        ScratchSwap x = ready();
+        Swap x = ready();
         x.boot();
         due("look(6), nothing was due", x.look(6), 0);
         x.request(true);
@@ -1029,7 +1029,7 @@ public final class BoundaryPromisesTest {
 
     private static void lookWrongs() {
         CHECK.sentence("Promise 18", "7 how often boot() found 4 DUE and was not cut in that ERASE");
-        ScratchSwap x = ready();
+        Swap x = ready();
         makeWrong(x, 1);
         for (int time = 1; time <= 2; time++) {
             x.request(true);
@@ -1051,7 +1051,7 @@ public final class BoundaryPromisesTest {
 
     private static void lookTimesGone() {
         CHECK.sentence("Promise 18", "8 how often power went by cut().");
-        ScratchSwap x = ready();
+        Swap x = ready();
         x.cut(1, 0);
         due("look(8), told", x.look(8), 0);
         x.request(false);

@@ -46,7 +46,7 @@ public final class BoundaryTermsTest {
     private static void flashHasElevenSectors() {
         CHECK.sentence("Terms 1",
                 "THE FLASH has 11 SECTORS of 256 bytes, all bytes 255 at first, bytes numbered from 0 on.");
-        ScratchSwap x = new ScratchSwap();
+        Swap x = new Swap();
         due("flash(-1)", x.flash(-1), ScratchSwap.NONE);
         for (int at = 0; at < 2816; at++) {
             due("flash(" + at + ")", x.flash(at), 255);
@@ -63,7 +63,7 @@ public final class BoundaryTermsTest {
                 + "9 its TRAILER; 10 is the SCRATCH.");
         int[] edges = {0, 1023, P, P + 255, SECOND, 2303, S, S + 255, SCRATCH, 2815};
         for (int slot = 0; slot <= 1; slot++) {
-            ScratchSwap x = new ScratchSwap();
+            Swap x = new Swap();
             for (int at : edges) {
                 x.harm(at, 0);
             }
@@ -72,7 +72,7 @@ public final class BoundaryTermsTest {
                 due("install(" + slot + "), flash(" + at + ")", x.flash(at), at / 1280 == slot ? 255 : 0);
             }
         }
-        ScratchSwap x = Sample.ready(0, 0);
+        Swap x = Sample.ready(0, 0);
         x.harm(SCRATCH, 0);
         x.harm(2815, 0);
         x.request(false);
@@ -88,12 +88,12 @@ public final class BoundaryTermsTest {
         int[] lengths = {0, 1, 7, 8, 9, 255, 256, 257, 1016, 1017, 1023, 1024};
         int[] units = {0, 1, 1, 1, 2, 32, 32, 33, 127, 128, 128, 128};
         for (int i = 0; i < lengths.length; i++) {
-            ScratchSwap x = new ScratchSwap();
+            Swap x = new Swap();
             Sample.feedBytes(x, Sample.row(lengths[i]));
             due("install", x.install(1), lengths[i]);
             due("acts for " + lengths[i] + " bytes", x.look(3), 5 + units[i]);
         }
-        ScratchSwap x = zeroSector(0);
+        Swap x = zeroSector(0);
         x.cut(0, 31);
         x.install(0);
         due("unit 30 ends at", x.flash(247), 255);
@@ -101,8 +101,8 @@ public final class BoundaryTermsTest {
         due("unit 31 ends at", x.flash(255), 0);
     }
 
-    private static ScratchSwap zeroSector(int sector) {
-        ScratchSwap x = new ScratchSwap();
+    private static Swap zeroSector(int sector) {
+        Swap x = new Swap();
         for (int i = 0; i < 256; i++) {
             x.harm(256 * sector + i, 0);
         }
@@ -111,7 +111,7 @@ public final class BoundaryTermsTest {
 
     private static void eraseIsOfOneSector() {
         CHECK.sentence("Terms 1", "to ERASE a SECTOR (all its bytes are 255 then)");
-        ScratchSwap x = Sample.ready(0, 0);
+        Swap x = Sample.ready(0, 0);
         x.request(false);
         for (int at = S + 8; at < S + 256; at++) {
             x.harm(at, 0);
@@ -132,7 +132,7 @@ public final class BoundaryTermsTest {
     private static void writeKeepsBitsOfBoth() {
         CHECK.sentence("Terms 1",
                 "to WRITE a UNIT (each of its bytes becomes the bits that it and the new one both have)");
-        ScratchSwap x = Sample.ready(0, 0);
+        Swap x = Sample.ready(0, 0);
         int[] there = {254, 1, 3, 255, 128, 129, 2, 0};
         for (int i = 0; i < 8; i++) {
             x.harm(S + OK + i, there[i]);
@@ -153,7 +153,7 @@ public final class BoundaryTermsTest {
         for (int unit = 0; unit < 32; unit += 31) {
             for (int i = 0; i < 8; i += 7) {
                 int in = 256 * 3 + 8 * unit + i;
-                ScratchSwap x = Sample.ready(0, 0);
+                Swap x = Sample.ready(0, 0);
                 x.harm(SECOND + in, 254);
                 due("acts, one byte 254", actsOfTrial(x), 47);
                 due("the byte goes along", x.flash(in), 254);
@@ -164,21 +164,21 @@ public final class BoundaryTermsTest {
                 due("that byte goes along", x.flash(SECOND + in), 254);
             }
         }
-        ScratchSwap x = new ScratchSwap();
+        Swap x = new Swap();
         putFull(x, 0);
         putFull(x, 1);
         x.boot();
         due("acts, all units full", actsOfTrial(x), 3 + 12 * 34 + 3);
     }
 
-    private static int actsOfTrial(ScratchSwap x) {
+    private static int actsOfTrial(Swap x) {
         x.request(false);
         int before = x.look(3);
         due("boot", x.boot(), 1);
         return x.look(3) - before;
     }
 
-    private static void putFull(ScratchSwap x, int slot) {
+    private static void putFull(Swap x, int slot) {
         Sample.feedBytes(x, Sample.imageByHand(984, 984, slot));
         x.install(slot);
     }
@@ -187,7 +187,7 @@ public final class BoundaryTermsTest {
         CHECK.sentence("Terms 1", "each of its UNITS that is not eight times 255 is WRITTEN there, "
                 + "from the first one on.");
         for (int written = 0; written <= 32; written++) {
-            ScratchSwap x = new ScratchSwap();
+            Swap x = new Swap();
             putFull(x, 0);
             putFull(x, 1);
             x.boot();
@@ -204,7 +204,7 @@ public final class BoundaryTermsTest {
     private static void soManyActsAreDone() {
         CHECK.sentence("Terms 1", "then so many ACTS are still done; where one more would come it is not");
         for (int acts = 5; acts <= 7; acts++) {
-            ScratchSwap x = new ScratchSwap();
+            Swap x = new Swap();
             Sample.feedBytes(x, Sample.row(8));
             x.cut(acts, 31);
             due("install of six acts, cut(" + acts + ")", x.install(0), acts < 6 ? ScratchSwap.DOWN : 8);
@@ -213,7 +213,7 @@ public final class BoundaryTermsTest {
             due("down", x.look(0), acts < 6 ? 1 : 0);
             due("the last one", x.flash(7), acts < 6 ? 255 : Sample.row(8)[7]);
         }
-        ScratchSwap x = Sample.ready(0, 0);
+        Swap x = Sample.ready(0, 0);
         x.cut(0, 0);
         due("confirm() without an act", x.confirm(), 0);
         due("boot() without an act", x.boot(), 1);
@@ -225,7 +225,7 @@ public final class BoundaryTermsTest {
     private static void cutEraseKeepsTheRest() {
         CHECK.sentence("Terms 1", "of an ERASE that is cut so the first UNITS, as many as told, are erased");
         for (int units = 0; units <= 31; units++) {
-            ScratchSwap x = zeroSector(1);
+            Swap x = zeroSector(1);
             x.cut(1, units);
             due("install", x.install(0), ScratchSwap.DOWN);
             for (int i = 0; i < 256; i++) {
@@ -236,7 +236,7 @@ public final class BoundaryTermsTest {
 
     private static void nothingBehindTheCut() {
         CHECK.sentence("Terms 1", "nor anything behind it: the memory is DOWN.");
-        ScratchSwap x = zeroSector(2);
+        Swap x = zeroSector(2);
         x.harm(0, 0);
         x.harm(256, 0);
         Sample.feedBytes(x, Sample.row(16));
@@ -260,13 +260,13 @@ public final class BoundaryTermsTest {
     private static void cutCallAnswersDown() {
         CHECK.sentence("Terms 1", "The call in which that comes answers DOWN");
         for (int acts = 0; acts <= 6; acts++) {
-            ScratchSwap x = new ScratchSwap();
+            Swap x = new Swap();
             Sample.feedBytes(x, Sample.row(8));
             x.cut(acts, 3);
             due("install, cut(" + acts + ")", x.install(0), acts < 6 ? ScratchSwap.DOWN : 8);
         }
         for (int acts = 0; acts <= 2; acts++) {
-            ScratchSwap x = Sample.ready(0, 0);
+            Swap x = Sample.ready(0, 0);
             x.cut(acts, 3);
             due("request(true), cut(" + acts + ")", x.request(true), acts < 2 ? ScratchSwap.DOWN : 0);
             x = Sample.ready(0, 0);
@@ -279,7 +279,7 @@ public final class BoundaryTermsTest {
             due("confirm(), cut(" + acts + ")", x.confirm(), acts < 1 ? ScratchSwap.DOWN : 1);
         }
         for (int acts = 0; acts <= 45; acts++) {
-            ScratchSwap x = Sample.ready(0, 0);
+            Swap x = Sample.ready(0, 0);
             x.request(false);
             x.cut(acts, 3);
             due("boot(), cut(" + acts + ")", x.boot(), acts < 45 ? ScratchSwap.DOWN : 1);
@@ -288,7 +288,7 @@ public final class BoundaryTermsTest {
 
     private static void downTillPower() {
         CHECK.sentence("Terms 1", "and so does each other that could ACT, doing nothing, till power().");
-        ScratchSwap x = Sample.ready(20, 20);
+        Swap x = Sample.ready(20, 20);
         x.request(true);
         x.cut(30, 0);
         x.boot();
@@ -319,7 +319,7 @@ public final class BoundaryTermsTest {
         int[] versions = {0, -1, 255, 256, 0x01020304, Integer.MIN_VALUE, Integer.MAX_VALUE};
         for (int i = 0; i < lengths.length; i++) {
             int[] image = Sample.imageByHand(lengths[i], lengths[i], versions[i]);
-            ScratchSwap x = new ScratchSwap();
+            Swap x = new Swap();
             Sample.feedBytes(x, Arrays.copyOfRange(image, 8, 8 + lengths[i]));
             due("pack", x.pack(versions[i]), lengths[i] + 40);
             x.install(1);
@@ -337,7 +337,7 @@ public final class BoundaryTermsTest {
         int[] ahead = {8, 9, 54, 55, 56, 57, 63, 64, 65, 118, 119, 120, 121, 127, 128, 129, 512, 951, 952, 959, 960,
             961, 983, 984, 991, 992};
         for (int bytes : ahead) {
-            ScratchSwap x = new ScratchSwap();
+            Swap x = new Swap();
             Sample.feedBytes(x, Sample.imageByHand(bytes - 8, bytes - 8, bytes));
             x.install(0);
             due("image with " + bytes + " bytes ahead of the digest", x.image(0, 0), 1);
@@ -374,7 +374,7 @@ public final class BoundaryTermsTest {
     /** Of 985 bytes the digest's last one comes to lie in the trailer, where harm() can put it. */
     private static void byHand(int slot, int told, int length, int right) {
         int[] image = Sample.imageByHand(told, length, 7);
-        ScratchSwap x = new ScratchSwap();
+        Swap x = new Swap();
         Sample.feedBytes(x, Arrays.copyOf(image, Math.min(image.length, 1024)));
         x.install(slot);
         for (int i = 1024; i < image.length; i++) {
@@ -395,7 +395,7 @@ public final class BoundaryTermsTest {
         int[] image = Sample.imageByHand(30, 30, 0x01020304);
         for (int slot = 0; slot <= 1; slot++) {
             for (int i = 0; i <= image.length; i++) {
-                ScratchSwap x = new ScratchSwap();
+                Swap x = new Swap();
                 Sample.feedBytes(x, image);
                 x.install(slot);
                 int at = slot * SECOND + i;
@@ -412,7 +412,7 @@ public final class BoundaryTermsTest {
         for (int slot = 0; slot <= 1; slot++) {
             int trailer = slot == 0 ? P : S;
             for (int i = 0; i < 8; i++) {
-                ScratchSwap x = new ScratchSwap();
+                Swap x = new Swap();
                 for (int k = 0; k < 8; k++) {
                     x.harm(trailer + k, Sample.MAGIC[k] | (k == i ? 128 : 0));
                 }
@@ -430,12 +430,12 @@ public final class BoundaryTermsTest {
         for (int slot = 0; slot <= 1; slot++) {
             int trailer = slot == 0 ? P : S;
             for (int k : new int[] {0, 1, 2, 3, 4, 5, 6, 7, 128, 129, 254, 255}) {
-                ScratchSwap x = new ScratchSwap();
+                Swap x = new Swap();
                 Sample.harmUnit(x, trailer, 1, k);
                 due("eight times " + k, x.trailer(slot, 1), k <= 3 ? k : 0);
             }
             for (int i = 0; i < 8; i++) {
-                ScratchSwap x = new ScratchSwap();
+                Swap x = new Swap();
                 for (int k = 0; k < 8; k++) {
                     x.harm(trailer + KIND + k, k == i ? 255 : 3);
                 }
@@ -452,7 +452,7 @@ public final class BoundaryTermsTest {
         CHECK.sentence("Terms 2", "4 to 15 the STEPS");
         for (int slot = 0; slot <= 1; slot++) {
             for (int unit = 0; unit < 32; unit++) {
-                ScratchSwap x = new ScratchSwap();
+                Swap x = new Swap();
                 Sample.harmUnit(x, slot == 0 ? P : S, unit, 1);
                 due("unit " + unit + ", trailer(" + slot + ", 4)", x.trailer(slot, 4), unit >= 4 && unit <= 15 ? 1 : 0);
             }
@@ -462,7 +462,7 @@ public final class BoundaryTermsTest {
     /** An exchange is cut behind each of its steps: the units that are marked by then. */
     private static void stepsOfEachSector() {
         CHECK.sentence("Terms 2", "STEP k (0, 1, 2) of SECTOR j (0 .. 3) is UNIT 4 + 3 j + k.");
-        ScratchSwap x = new ScratchSwap();
+        Swap x = new Swap();
         Sample.harmUnit(x, P, 1, 1);
         for (int j = 3; j >= 0; j--) {
             for (int k = 0; k <= 2; k++) {
@@ -482,7 +482,7 @@ public final class BoundaryTermsTest {
         CHECK.sentence("Terms 2", "(DONE, OK, STEPS are SET, if SET with 1.");
         for (int slot = 0; slot <= 1; slot++) {
             for (int k = 0; k <= 4; k++) {
-                ScratchSwap x = new ScratchSwap();
+                Swap x = new Swap();
                 for (int unit = 2; unit <= 15; unit++) {
                     Sample.harmUnit(x, slot == 0 ? P : S, unit, k);
                 }
@@ -495,7 +495,7 @@ public final class BoundaryTermsTest {
 
     private static void markWritesEightBytes() {
         CHECK.sentence("Terms 2", "To MARK one: to WRITE eight times that number.)");
-        ScratchSwap x = Sample.ready(0, 0);
+        Swap x = Sample.ready(0, 0);
         x.request(true);
         Sample.same(CHECK, "OK of the secondary trailer", x, S + OK - 1, new int[] {255, 1, 1, 1, 1, 1, 1, 1, 1, 255});
         x = Sample.ready(0, 0);

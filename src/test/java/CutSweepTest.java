@@ -22,8 +22,8 @@ public final class CutSweepTest {
     }
 
     /** An object whose next boot does a whole exchange of that kind. */
-    private static ScratchSwap asked(int kind) {
-        ScratchSwap x = Sample.ready(FIRST, SECOND);
+    private static Swap asked(int kind) {
+        Swap x = Sample.ready(FIRST, SECOND);
         x.request(kind == 2);
         if (kind == 3) {
             x.boot();
@@ -33,7 +33,7 @@ public final class CutSweepTest {
     }
 
     private static int actsOf(int kind) {
-        ScratchSwap x = asked(kind);
+        Swap x = asked(kind);
         int before = x.look(3);
         x.boot();
         return x.look(3) - before;
@@ -41,7 +41,7 @@ public final class CutSweepTest {
 
     private static void cutOnce(int kind, int cut, int units, int acts) {
         String name = "kind " + kind + " cut(" + cut + ", " + units + ") ";
-        ScratchSwap x = asked(kind);
+        Swap x = asked(kind);
         int boots = x.look(5);
         int before = x.look(3);
         x.cut(cut, units);
@@ -60,7 +60,7 @@ public final class CutSweepTest {
 
     private static void cutTwice(int kind, int cut, int units) {
         String name = "kind " + kind + " cut twice at " + cut + " ";
-        ScratchSwap x = asked(kind);
+        Swap x = asked(kind);
         x.cut(cut, units);
         x.boot();
         x.power();
@@ -75,14 +75,14 @@ public final class CutSweepTest {
     }
 
     private static void cutBehindTheLast(int kind, int acts) {
-        ScratchSwap x = asked(kind);
+        Swap x = asked(kind);
         x.cut(acts, 5);
         CHECK.due("kind " + kind + " cut behind the last act", x.boot(), 1);
         CHECK.due("none left", x.look(4), 0);
         ended("kind " + kind + " not cut ", kind, x);
     }
 
-    private static void ended(String name, int kind, ScratchSwap x) {
+    private static void ended(String name, int kind, Swap x) {
         int[] one = Sample.image(1, FIRST, 1);
         int[] two = Sample.image(2, SECOND, 2);
         Sample.same(CHECK, name + "primary", x, 0, kind == 3 ? one : two);

@@ -8,7 +8,7 @@ import java.util.TreeSet;
 /** The class has the document's public face and no other member that is not private. */
 public final class FaceTest {
     private static final Check CHECK = new Check("FaceTest");
-    private static final Set<String> METHODS = Set.of(
+    static final Set<String> METHODS = Set.of(
             "int feed(int,int,int,int,int)", "boolean end(int)", "int taped()", "int pack(int)", "int install(int)",
             "int request(boolean)", "int confirm()", "int boot()", "boolean cut(int,int)", "void power()",
             "boolean harm(int,int)", "int flash(int)", "int due()", "int image(int,int)", "int trailer(int,int)",

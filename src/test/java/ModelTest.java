@@ -1,13 +1,13 @@
 import java.util.Random;
 
-/** Long runs of calls drawn from a fixed seed, each answer beside the model's, and the whole flash at the end. */
+/** Runs of calls drawn from a fixed seed, each answer beside the model's, and the whole flash at the end. */
 public final class ModelTest {
     private static final Check CHECK = new Check("ModelTest");
-    private static final int RUNS = 600;
-    private static final int CALLS = 512;
+    private static final int RUNS = 3000;
+    private static final int MOST_OF_A_TURN = 24;
 
     private final Random random;
-    private final ScratchSwap x = new ScratchSwap();
+    private final Swap x = new Swap();
     private final Model m = new Model();
     private final int run;
 
@@ -28,9 +28,10 @@ public final class ModelTest {
     }
 
     private void go(int[] dues) {
-        for (int call = 0; call < CALLS; call++) {
+        int most = mostChanges() - MOST_OF_A_TURN;
+        for (int turn = 0; x.changes() < most; turn++) {
             one();
-            if (call % 8 == 0) {
+            if (turn % 8 == 0) {
                 look();
                 dues[m.due()]++;
             }
@@ -38,6 +39,11 @@ public final class ModelTest {
         for (int at = -1; at <= 2816; at++) {
             due("flash(" + at + ")", x.flash(at), m.flash(at));
         }
+    }
+
+    /** Every fiftieth run goes up to the last call that can still be looked at; the others are short, for speed. */
+    private int mostChanges() {
+        return run % 50 == 0 ? Swap.MOST_CALLS - 1 : 250;
     }
 
     private void due(String call, long got, long want) {

@@ -45,7 +45,7 @@ public final class PromiseTest {
     }
 
     private static void promise1New() {
-        ScratchSwap x = new ScratchSwap();
+        Swap x = new Swap();
         for (int at = 0; at < Sample.FLASH; at++) {
             due("1 flash(" + at + ")", x.flash(at), 255);
         }
@@ -65,7 +65,7 @@ public final class PromiseTest {
     }
 
     private static void promise2Feed() {
-        ScratchSwap x = new ScratchSwap();
+        Swap x = new Swap();
         due("2 feed", x.feed(0x01020304, 0x85868788, -2, 0, 0x7fffffff), 20);
         due("2 feed more", x.feed(0x11121314, 0, 0, 0, 0), 40);
         x.install(0);
@@ -75,7 +75,7 @@ public final class PromiseTest {
     }
 
     private static void promise2FeedLimit() {
-        ScratchSwap x = new ScratchSwap();
+        Swap x = new Swap();
         for (int i = 1; i <= 51; i++) {
             due("2 feed " + i, x.feed(i, i, i, i, i), 20 * i);
         }
@@ -92,7 +92,7 @@ public final class PromiseTest {
     }
 
     private static void promise3End() {
-        ScratchSwap x = new ScratchSwap();
+        Swap x = new Swap();
         due("3 end(0) of nothing", x.end(0), true);
         due("3 end(1) of nothing", x.end(1), false);
         x.feed(0x01020304, 0x05060708, 0x090a0b0c, 0x0d0e0f10, 0x11121314);
@@ -111,7 +111,7 @@ public final class PromiseTest {
     }
 
     private static void promise4Taped() {
-        ScratchSwap x = new ScratchSwap();
+        Swap x = new Swap();
         x.feed(1, 2, 3, 4, 5);
         due("4 fed", x.taped(), 20);
         x.feed(1, 2, 3, 4, 5);
@@ -129,14 +129,14 @@ public final class PromiseTest {
         int[] versions = {0, 1, -1, 0x01020304, Integer.MIN_VALUE, Integer.MAX_VALUE};
         for (int i = 0; i < lengths.length; i++) {
             int version = versions[i % versions.length];
-            ScratchSwap x = new ScratchSwap();
+            Swap x = new Swap();
             Sample.feedAll(x, lengths[i], i);
             due("5 pack of " + lengths[i], x.pack(version), lengths[i] + 40);
             due("5 taped", x.taped(), lengths[i] + 40);
             x.install(1);
             Sample.same(CHECK, "5 image of " + lengths[i], x, 5 * 256, Sample.image(version, lengths[i], i));
         }
-        ScratchSwap x = new ScratchSwap();
+        Swap x = new Swap();
         Sample.feedAll(x, 985, 1);
         due("5 pack of 985", x.pack(1), ScratchSwap.NONE);
         due("5 it stays", x.taped(), 985);
@@ -154,9 +154,9 @@ public final class PromiseTest {
     private static void promise6Install() {
         for (int slot = 0; slot <= 1; slot++) {
             int first = slot == 0 ? 0 : 5;
-            ScratchSwap x = new ScratchSwap();
-            for (int at = 0; at < Sample.FLASH; at++) {
-                x.harm(at, 0);
+            Swap x = new Swap();
+            for (int unit = 0; unit < Sample.FLASH / 8; unit++) {
+                x.harm(8 * unit + unit % 8, 0);
             }
             x.feed(-1, -1, 0x01020304, -1, -1);
             x.feed(-1, -1, -1, 0x05060708, 0x090a0b0c);
@@ -165,7 +165,7 @@ public final class PromiseTest {
             for (int at = 0; at < Sample.FLASH; at++) {
                 int sector = at / 256;
                 boolean erased = sector >= first && sector <= first + 4;
-                int want = erased ? 255 : 0;
+                int want = erased || at % 8 != at / 8 % 8 ? 255 : 0;
                 int in = at - first * 256;
                 want = in >= 8 && in < 12 ? in - 7 : in >= 32 && in < 37 ? in - 27 : want;
                 due("6 byte " + at, x.flash(at), want);
@@ -178,7 +178,7 @@ public final class PromiseTest {
                 due("6 wear", x.wear(sector), sector >= first && sector <= first + 4 ? 2 : 0);
             }
         }
-        ScratchSwap x = Sample.ready(20, 20);
+        Swap x = Sample.ready(20, 20);
         x.install(1);
         due("6 the secondary slot alone", x.look(1), 1);
         x.install(0);
@@ -187,7 +187,7 @@ public final class PromiseTest {
     }
 
     private static void promise6InstallRefused() {
-        ScratchSwap x = Sample.ready(20, 20);
+        Swap x = Sample.ready(20, 20);
         int acts = x.look(3);
         for (int slot : new int[] {2, -1, Integer.MIN_VALUE, Integer.MAX_VALUE}) {
             x.feed(1, 2, 3, 4, 5);
@@ -214,7 +214,7 @@ public final class PromiseTest {
     }
 
     private static void promise6InstallCut() {
-        ScratchSwap x = Sample.ready(20, 20);
+        Swap x = Sample.ready(20, 20);
         x.cut(4, 3);
         x.harm(Sample.SECONDARY_TRAILER + 23, 0);
         x.harm(Sample.SECONDARY_TRAILER + 24, 0);
@@ -234,7 +234,7 @@ public final class PromiseTest {
     }
 
     private static void promise7Request() {
-        ScratchSwap x = new ScratchSwap();
+        Swap x = new Swap();
         due("7 idle", x.request(true), ScratchSwap.IDLE);
         due("7 nothing done", x.look(3), 0);
         for (int good = 0; good <= 1; good++) {
@@ -259,7 +259,7 @@ public final class PromiseTest {
     }
 
     private static void promise7RequestCut() {
-        ScratchSwap x = Sample.ready(20, 20);
+        Swap x = Sample.ready(20, 20);
         x.cut(1, 0);
         due("7 cut", x.request(true), ScratchSwap.DOWN);
         due("7 ok first", x.trailer(1, 3), 1);
@@ -275,7 +275,7 @@ public final class PromiseTest {
     }
 
     private static void promise8Confirm() {
-        ScratchSwap x = new ScratchSwap();
+        Swap x = new Swap();
         due("8 idle", x.confirm(), ScratchSwap.IDLE);
         x = Sample.ready(20, 20);
         due("8 no magic", x.confirm(), 0);
@@ -307,7 +307,7 @@ public final class PromiseTest {
 
     /** The sectors 3, 2, 1, 0, and of each the steps 0, 1, 2: power leaves each boot one step's acts alone. */
     private static void promise9BootOrder() {
-        ScratchSwap x = Sample.ready(0, 0);
+        Swap x = Sample.ready(0, 0);
         x.request(false);
         for (int step = 0; step < 12; step++) {
             int unit = 4 + 3 * (3 - step / 3) + step % 3;
@@ -327,7 +327,7 @@ public final class PromiseTest {
     }
 
     private static void promise9BootWrong() {
-        ScratchSwap x = new ScratchSwap();
+        Swap x = new Swap();
         due("9 nothing there", x.boot(), 0);
         due("9 it counts", x.look(5), 1);
         x = Sample.ready(984, 700);
@@ -354,7 +354,7 @@ public final class PromiseTest {
     }
 
     private static void promise9BootMarks() {
-        ScratchSwap x = Sample.ready(300, 984);
+        Swap x = Sample.ready(300, 984);
         x.request(false);
         x.boot();
         due("9 trial", x.trailer(0, 1), 1);
@@ -383,7 +383,7 @@ public final class PromiseTest {
     }
 
     private static void promise10Cut() {
-        ScratchSwap x = new ScratchSwap();
+        Swap x = new Swap();
         for (int odd : ODD) {
             due("10 acts " + odd, x.cut(odd, 0), false);
             due("10 units " + odd, x.cut(0, odd), false);
@@ -415,15 +415,16 @@ public final class PromiseTest {
         due("10 no act, no cut", x.confirm(), 0);
     }
 
+    /** Of the first sector, and of the first unit behind it. */
     private static void promise10CutErase() {
         for (int units = 0; units < 32; units++) {
-            ScratchSwap x = new ScratchSwap();
-            for (int at = 0; at < 512; at++) {
+            Swap x = new Swap();
+            for (int at = 0; at < 264; at++) {
                 x.harm(at, 0);
             }
             x.cut(0, units);
             due("10 cut", x.install(0), ScratchSwap.DOWN);
-            for (int at = 0; at < 512; at++) {
+            for (int at = 0; at < 264; at++) {
                 due("10 " + units + " units, byte " + at, x.flash(at), at < 8 * units ? 255 : 0);
             }
             due("10 wear", x.wear(0), 1);
@@ -435,7 +436,7 @@ public final class PromiseTest {
     }
 
     private static void promise11Power() {
-        ScratchSwap x = Sample.ready(20, 20);
+        Swap x = Sample.ready(20, 20);
         x.feed(1, 2, 3, 4, 5);
         x.cut(3, 3);
         x.power();
@@ -459,7 +460,7 @@ public final class PromiseTest {
     }
 
     private static void promise12Harm() {
-        ScratchSwap x = new ScratchSwap();
+        Swap x = new Swap();
         for (int odd : new int[] {-1, 2816, Integer.MIN_VALUE, Integer.MAX_VALUE}) {
             due("12 harm(" + odd + ")", x.harm(odd, 0), false);
         }
@@ -490,7 +491,7 @@ public final class PromiseTest {
 
     /** The one byte of a fed number 2 that is not 0 is its last one: the others can lose no bit. */
     private static void promise12HarmedImage() {
-        ScratchSwap x = new ScratchSwap();
+        Swap x = new Swap();
         x.feed(2, 2, 2, 2, 2);
         x.pack(4);
         x.install(0);
@@ -507,7 +508,7 @@ public final class PromiseTest {
     }
 
     private static void promise13Flash() {
-        ScratchSwap x = new ScratchSwap();
+        Swap x = new Swap();
         for (int odd : new int[] {-1, 2816, Integer.MIN_VALUE, Integer.MAX_VALUE}) {
             due("13 flash(" + odd + ")", x.flash(odd), ScratchSwap.NONE);
         }
@@ -522,7 +523,7 @@ public final class PromiseTest {
 
     private static void promise14Due() {
         for (int kind = 1; kind <= 3; kind++) {
-            ScratchSwap x = Sample.ready(20, 20);
+            Swap x = Sample.ready(20, 20);
             Sample.harmUnit(x, Sample.SECONDARY_TRAILER, 1, kind);
             due("14 secondary kind", x.due(), kind);
             x.harm(5 * 256 + 8, 0);
@@ -533,7 +534,7 @@ public final class PromiseTest {
             Sample.harmUnit(x, Sample.PRIMARY_TRAILER, 2, 1);
             due("14 done", x.due(), kind == 3 ? 3 : 4);
         }
-        ScratchSwap x = Sample.ready(20, 20);
+        Swap x = Sample.ready(20, 20);
         Sample.harmUnit(x, Sample.SECONDARY_TRAILER, 3, 1);
         due("14 ok alone", x.due(), 0);
         Sample.harmMagic(x, Sample.SECONDARY_TRAILER);
@@ -571,7 +572,7 @@ public final class PromiseTest {
         int[] lengths = {0, 984, 333};
         for (int i = 0; i < 3; i++) {
             for (int slot = 0; slot <= 1; slot++) {
-                ScratchSwap x = new ScratchSwap();
+                Swap x = new Swap();
                 Sample.put(x, slot, versions[i], lengths[i]);
                 due("15 right", x.image(slot, 0), 1);
                 due("15 length", x.image(slot, 1), lengths[i]);
@@ -585,13 +586,13 @@ public final class PromiseTest {
                 due("15 no version", x.image(slot, 2), harmed ? 0 : versions[i]);
             }
         }
-        ScratchSwap x = Sample.ready(20, 20);
+        Swap x = Sample.ready(20, 20);
         for (int odd : new int[] {-1, 3, Integer.MIN_VALUE, Integer.MAX_VALUE}) {
             due("15 what " + odd, x.image(0, odd), ScratchSwap.NONE);
             due("15 slot " + odd, x.image(odd, 0), ScratchSwap.NONE);
         }
         due("15 slot 2", x.image(2, 0), ScratchSwap.NONE);
-        x = new ScratchSwap();
+        x = new Swap();
         x.feed(0xd9030000, 0, 0, 0, 0);
         x.install(0);
         due("15 length 985", x.image(0, 0), 0);
@@ -606,7 +607,7 @@ public final class PromiseTest {
     private static void promise16Trailer() {
         for (int slot = 0; slot <= 1; slot++) {
             int trailer = slot == 0 ? Sample.PRIMARY_TRAILER : Sample.SECONDARY_TRAILER;
-            ScratchSwap x = new ScratchSwap();
+            Swap x = new Swap();
             for (int what = 0; what <= 4; what++) {
                 due("16 empty", x.trailer(slot, what), 0);
             }
@@ -641,7 +642,7 @@ public final class PromiseTest {
             }
             due("16 slot 2", x.trailer(2, 0), ScratchSwap.NONE);
         }
-        ScratchSwap x = new ScratchSwap();
+        Swap x = new Swap();
         Sample.harmUnit(x, Sample.PRIMARY_TRAILER, 1, 4);
         due("16 kind 4", x.trailer(0, 1), 0);
         Sample.harmUnit(x, Sample.PRIMARY_TRAILER, 1, 0);
@@ -649,7 +650,7 @@ public final class PromiseTest {
     }
 
     private static void promise17Wear() {
-        ScratchSwap x = Sample.ready(20, 20);
+        Swap x = Sample.ready(20, 20);
         for (int odd : new int[] {-1, 11, Integer.MIN_VALUE, Integer.MAX_VALUE}) {
             due("17 wear(" + odd + ")", x.wear(odd), ScratchSwap.NONE);
         }
@@ -670,7 +671,7 @@ public final class PromiseTest {
     }
 
     private static void promise18Look() {
-        ScratchSwap x = Sample.ready(20, 20);
+        Swap x = Sample.ready(20, 20);
         for (int odd : new int[] {-1, 9, Integer.MIN_VALUE, Integer.MAX_VALUE}) {
             due("18 look(" + odd + ")", x.look(odd), ScratchSwap.NONE);
         }

@@ -43,7 +43,7 @@ final class Sample {
     }
 
     /** The tape holds the data of that length afterwards; at most 1024 less what a last feed is over. */
-    static void feedAll(ScratchSwap x, int length, int seed) {
+    static void feedAll(Swap x, int length, int seed) {
         x.end(0);
         for (int i = 0; i < length; i += 20) {
             x.feed(number(seed, i), number(seed, i + 4), number(seed, i + 8), number(seed, i + 12),
@@ -53,7 +53,7 @@ final class Sample {
     }
 
     /** The tape holds these bytes afterwards, up to 1024: the odd ones go first, as a feed is always twenty. */
-    static void feedBytes(ScratchSwap x, int... bytes) {
+    static void feedBytes(Swap x, int... bytes) {
         x.end(0);
         int odd = bytes.length % 20;
         if (odd != 0) {
@@ -65,7 +65,7 @@ final class Sample {
         }
     }
 
-    private static void feedTwenty(ScratchSwap x, int[] bytes, int from) {
+    private static void feedTwenty(Swap x, int[] bytes, int from) {
         int[] numbers = new int[5];
         for (int i = 0; i < 20; i++) {
             int b = from + i < bytes.length ? bytes[from + i] : 0;
@@ -103,35 +103,35 @@ final class Sample {
                 | dataByte(seed, i + 3);
     }
 
-    static void put(ScratchSwap x, int slot, int version, int length) {
+    static void put(Swap x, int slot, int version, int length) {
         feedAll(x, length, version);
         x.pack(version);
         x.install(slot);
     }
 
     /** Version 1 RUNS, version 2 stands in the secondary slot, nothing is asked for. */
-    static ScratchSwap ready(int first, int second) {
-        ScratchSwap x = new ScratchSwap();
+    static Swap ready(int first, int second) {
+        Swap x = new Swap();
         put(x, 0, 1, first);
         put(x, 1, 2, second);
         x.boot();
         return x;
     }
 
-    static void harmUnit(ScratchSwap x, int trailer, int unit, int value) {
+    static void harmUnit(Swap x, int trailer, int unit, int value) {
         for (int i = 0; i < 8; i++) {
             x.harm(trailer + 8 * unit + i, value);
         }
     }
 
-    static void harmMagic(ScratchSwap x, int trailer) {
+    static void harmMagic(Swap x, int trailer) {
         for (int i = 0; i < 8; i++) {
             x.harm(trailer + i, MAGIC[i]);
         }
     }
 
     /** All that can be seen of an object from outside, but for the tape. */
-    static int[] seen(ScratchSwap x) {
+    static int[] seen(Swap x) {
         int[] seen = new int[FLASH + 11 + 9 + 1];
         for (int i = 0; i < seen.length; i++) {
             seen[i] = seenAt(x, i);
@@ -139,12 +139,12 @@ final class Sample {
         return seen;
     }
 
-    private static int seenAt(ScratchSwap x, int i) {
+    private static int seenAt(Swap x, int i) {
         int behind = i - FLASH;
         return behind < 0 ? x.flash(i) : behind < 11 ? x.wear(behind) : behind < 20 ? x.look(behind - 11) : x.due();
     }
 
-    static void unchanged(Check check, String call, ScratchSwap x, int[] before) {
+    static void unchanged(Check check, String call, Swap x, int[] before) {
         for (int i = 0; i < before.length; i++) {
             int behind = i - FLASH;
             String name = behind < 0 ? "flash(" + i + ")" : behind < 11 ? "wear(" + behind + ")"
@@ -153,7 +153,7 @@ final class Sample {
         }
     }
 
-    static void same(Check check, String what, ScratchSwap x, int at, int[] bytes) {
+    static void same(Check check, String what, Swap x, int at, int[] bytes) {
         for (int i = 0; i < bytes.length; i++) {
             check.due(what + " flash(" + (at + i) + ")", x.flash(at + i), bytes[i]);
         }
