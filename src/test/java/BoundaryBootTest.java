@@ -14,6 +14,7 @@ public final class BoundaryBootTest {
     }
 
     public static void main(String[] args) {
+        startsNothingWrong();
         underWay();
         theFirstThatHolds();
         resumeIsFirst();
@@ -519,6 +520,28 @@ public final class BoundaryBootTest {
         }
         due("due()", x.due(), what);
         return x;
+    }
+
+    /** Each bit of an image that can be taken from it, ahead of a boot that has nothing to do. */
+    private static void startsNothingWrong() {
+        CHECK.sentence("What it is", "and it starts nothing whose digest is wrong");
+        int[] image = Sample.imageByHand(5, 5, 0x01020304);
+        for (int i = 0; i < 8 * image.length; i++) {
+            int at = i / 8;
+            int bit = 1 << i % 8;
+            boolean taken = (image[at] & bit) != 0;
+            Swap x = new Swap();
+            Sample.feedBytes(x, image);
+            x.install(0);
+            due("boot() of a right one", x.boot(), 1);
+            x.harm(at, 255 - bit);
+            String name = "byte " + at + " without bit " + bit + ": ";
+            due(name + "boot()", x.boot(), taken ? 0 : 1);
+            due(name + "look(1)", x.look(1), taken ? 0 : 1);
+            due(name + "look(2)", x.look(2), taken ? 0 : 0x01020304);
+            due(name + "request(true)", x.request(true), taken ? ScratchSwap.IDLE : 0);
+            due(name + "confirm()", x.confirm(), taken ? ScratchSwap.IDLE : 0);
+        }
     }
 
     private static void runsTill() {

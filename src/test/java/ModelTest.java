@@ -41,7 +41,7 @@ public final class ModelTest {
         }
     }
 
-    /** Every fiftieth run goes up to the last call that can still be looked at; the others are short, for speed. */
+    /** Every fiftieth run goes near an object's last call; the others are short: the new objects of Swap cost less. */
     private int mostChanges() {
         return run % 50 == 0 ? Swap.MOST_CALLS - 1 : 250;
     }
